@@ -1,0 +1,106 @@
+import java.lang.reflect.Constructor;
+import java.lang.reflect.Field;
+import java.lang.reflect.Method;
+import java.lang.reflect.Modifier;
+import java.util.Set;
+import java.util.TreeSet;
+
+/** The public face of the document, and that a call that throws changes nothing. */
+public final class FaceTest {
+    private static final String[] FACE = {
+        "close(int)", "below(int,int)", "dead()", "epoch()", "get(int)", "getByLeaves(int)", "high(int)",
+        "keyAt(int,int)", "keys()", "leafOf(int)", "level(int)", "links(int)", "next(int)", "open(int)", "pages()",
+        "post()", "postAll()", "put(int,int)", "recycle()", "right(int)", "root()", "size(int)", "take(int)",
+        "takeOut()", "waiting()",
+    };
+    private static final int[] WRONG_NUMBERS = {Integer.MIN_VALUE, -1, 200, 10000, Integer.MAX_VALUE};
+
+    public static void main(String[] args) throws ReflectiveOperationException {
+        methods();
+        restOfTheFace();
+        wrongCallsChangeNothing();
+        Check.end("FaceTest");
+    }
+
+    private static String signature(Method method) {
+        String name = method.toString();
+        return name.substring(name.indexOf("Highkey.") + 8, name.indexOf(')') + 1);
+    }
+
+    private static void methods() {
+        Set<String> open = new TreeSet<>();
+        Set<String> openNames = new TreeSet<>();
+        for (Method method : Highkey.class.getDeclaredMethods()) {
+            if (!Modifier.isPrivate(method.getModifiers())) {
+                open.add(signature(method));
+                openNames.add(method.getName());
+                Check.same(method + " is public", Modifier.toString(method.getModifiers()), "public");
+                Check.same(method + " answers an int", method.getReturnType(), int.class);
+            }
+        }
+        Check.same("the methods", open, new TreeSet<>(Set.of(FACE)));
+        for (Class<?> inside : Highkey.class.getDeclaredClasses()) {
+            Check.same(inside + " is static", Modifier.isStatic(inside.getModifiers()), true);
+            Check.same(inside + " is public", Modifier.isPublic(inside.getModifiers()), false);
+        }
+        for (Method method : Highkey.class.getDeclaredMethods()) {
+            boolean bears = Modifier.isPrivate(method.getModifiers()) && openNames.contains(method.getName());
+            Check.same(method + " bears the name of a public one", bears, false);
+        }
+    }
+
+    private static void restOfTheFace() throws ReflectiveOperationException {
+        Check.same("the class", Modifier.toString(Highkey.class.getModifiers()), "public final");
+        Set<String> openFields = new TreeSet<>();
+        for (Field field : Highkey.class.getDeclaredFields()) {
+            if (!Modifier.isPrivate(field.getModifiers())) {
+                openFields.add(field.toString());
+            }
+        }
+        Check.same("the constants", openFields, Set.of("public static final int Highkey.NONE"));
+        Check.same("NONE", Highkey.class.getField("NONE").getInt(null), -1);
+        Constructor<?>[] constructors = Highkey.class.getDeclaredConstructors();
+        Check.same("one constructor", constructors.length, 1);
+        Check.same("the constructor", constructors[0].toString(), "public Highkey()");
+    }
+
+    private static String state(Highkey tree) {
+        StringBuilder text = new StringBuilder();
+        text.append(tree.keys()).append(' ').append(tree.waiting()).append(' ').append(tree.dead()).append(' ');
+        text.append(tree.epoch()).append(' ').append(tree.pages()).append(' ').append(tree.root()).append('\n');
+        for (int page = 0; page < tree.pages(); page++) {
+            text.append(tree.level(page)).append(' ').append(tree.high(page)).append(' ').append(tree.right(page));
+            text.append(": ").append(Check.keysOf(tree, page)).append(", ").append(Check.pagesOf(tree, page)).append('\n');
+        }
+        return text.append(tree.leafOf(1)).toString();
+    }
+
+    /** Tries one method with every pair of numbers; only such calls are made as the document answers with an exception. */
+    private static void wrongCallsChangeNothing() throws ReflectiveOperationException {
+        Highkey tree = Check.tree(0, 30);
+        tree.post();
+        tree.open(3);
+        tree.open(5);
+        tree.close(0);
+        String before = state(tree);
+        for (Method method : Highkey.class.getDeclaredMethods()) {
+            if (!Modifier.isPublic(method.getModifiers()) || method.getParameterCount() == 0) {
+                continue;
+            }
+            for (int number : WRONG_NUMBERS) {
+                Object[] numbers = method.getParameterCount() == 1 ? new Object[] {number} : new Object[] {number, number};
+                Object thrown = "nothing";
+                try {
+                    method.invoke(tree, numbers);
+                } catch (java.lang.reflect.InvocationTargetException e) {
+                    thrown = e.getCause().getClass();
+                }
+                boolean byKey = Set.of("put", "take", "get", "getByLeaves", "links", "open").contains(method.getName());
+                Object due = byKey ? IllegalArgumentException.class : IndexOutOfBoundsException.class;
+                Check.same(method.getName() + " with " + number + " throws", thrown, due);
+            }
+        }
+        Check.same("the state behind wrong calls", state(tree), before);
+        Check.same("the cursor behind wrong calls", tree.next(1), 5);
+    }
+}
