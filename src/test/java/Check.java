@@ -1,9 +1,24 @@
+import java.util.function.IntConsumer;
+import java.util.function.Supplier;
+
 /** What the tests share: comparing answers, counting the wrong ones, and trees to begin with. */
 final class Check {
+    static final int[] NO_KEYS = {-1, 200, Integer.MIN_VALUE, Integer.MAX_VALUE};
+    // More than a page has, so that a page which never answers NONE is told, too.
+    private static final int MOST_PLACES = 8;
+
     private static int checked = 0;
     private static int wrong = 0;
 
     private Check() {
+    }
+
+    static int checked() {
+        return checked;
+    }
+
+    static int wrong() {
+        return wrong;
     }
 
     static void same(String what, Object got, Object want) {
@@ -29,8 +44,19 @@ final class Check {
         fails(what, IllegalArgumentException.class, call);
     }
 
+    /** The nearest keys below 0 and above 199, and the farthest ones. */
+    static void noKeys(String what, IntConsumer call) {
+        for (int key : NO_KEYS) {
+            noKey(what + " " + key, () -> call.accept(key));
+        }
+    }
+
     static void noSuch(String what, Runnable call) {
         fails(what, IndexOutOfBoundsException.class, call);
+    }
+
+    static void noneWaits(String what, Runnable call) {
+        fails(what, IllegalStateException.class, call);
     }
 
     /** A tree with the keys from, from + 1, .. to, each with ten times itself as its value. */
@@ -55,7 +81,7 @@ final class Check {
     /** The keys of a page, or of its entries, as a text. */
     static String keysOf(Highkey tree, int page) {
         StringBuilder text = new StringBuilder();
-        for (int place = 0; tree.keyAt(page, place) != Highkey.NONE; place++) {
+        for (int place = 0; place < MOST_PLACES && tree.keyAt(page, place) != Highkey.NONE; place++) {
             text.append(place == 0 ? "" : " ").append(tree.keyAt(page, place));
         }
         return text.toString();
@@ -64,10 +90,50 @@ final class Check {
     /** The pages of the entries of a page, as a text. */
     static String pagesOf(Highkey tree, int page) {
         StringBuilder text = new StringBuilder();
-        for (int place = 0; tree.below(page, place) != Highkey.NONE; place++) {
+        for (int place = 0; place < MOST_PLACES && tree.below(page, place) != Highkey.NONE; place++) {
             text.append(place == 0 ? "" : " ").append(tree.below(page, place));
         }
         return text.toString();
+    }
+
+    /** All that can be asked without changing it, but for what a cursor found last. */
+    static String state(Highkey tree) {
+        StringBuilder text = new StringBuilder();
+        text.append(tree.keys()).append(' ').append(tree.waiting()).append(' ').append(tree.dead()).append(' ');
+        text.append(tree.epoch()).append(' ').append(tree.pages()).append(' ').append(tree.root()).append('\n');
+        int found = 0;
+        for (int page = 0; found < tree.pages() && page < 600; page++) {
+            String told = pageState(tree, page);
+            found += told.equals("none") ? 0 : 1;
+            text.append(page).append(": ").append(told).append('\n');
+        }
+        for (int cursor = 0; cursor < 3; cursor++) {
+            int asked = cursor;
+            text.append(orNone(() -> "" + tree.leafOf(asked))).append(' ');
+        }
+        return text.toString();
+    }
+
+    private static String pageState(Highkey tree, int page) {
+        return orNone(() -> tree.level(page) + " " + tree.high(page) + " " + tree.right(page) + " " + tree.size(page)
+                + " " + valuesOf(tree, page) + " " + pagesOf(tree, page));
+    }
+
+    private static String valuesOf(Highkey tree, int page) {
+        StringBuilder text = new StringBuilder();
+        for (int place = 0; place < tree.size(page); place++) {
+            int key = tree.keyAt(page, place);
+            text.append(key).append(tree.level(page) == 0 ? "=" + tree.get(key) : "").append(' ');
+        }
+        return text.toString();
+    }
+
+    private static String orNone(Supplier<String> asked) {
+        try {
+            return asked.get();
+        } catch (IndexOutOfBoundsException e) {
+            return "none";
+        }
     }
 
     static void end(String test) {

@@ -64,25 +64,14 @@ public final class FaceTest {
         Check.same("the constructor", constructors[0].toString(), "public Highkey()");
     }
 
-    private static String state(Highkey tree) {
-        StringBuilder text = new StringBuilder();
-        text.append(tree.keys()).append(' ').append(tree.waiting()).append(' ').append(tree.dead()).append(' ');
-        text.append(tree.epoch()).append(' ').append(tree.pages()).append(' ').append(tree.root()).append('\n');
-        for (int page = 0; page < tree.pages(); page++) {
-            text.append(tree.level(page)).append(' ').append(tree.high(page)).append(' ').append(tree.right(page));
-            text.append(": ").append(Check.keysOf(tree, page)).append(", ").append(Check.pagesOf(tree, page)).append('\n');
-        }
-        return text.append(tree.leafOf(1)).toString();
-    }
-
     /** Tries one method with every pair of numbers; only such calls are made as the document answers with an exception. */
     private static void wrongCallsChangeNothing() throws ReflectiveOperationException {
-        Highkey tree = Check.tree(0, 30);
+        Highkey tree = Check.tree(0, 10);
         tree.post();
         tree.open(3);
         tree.open(5);
         tree.close(0);
-        String before = state(tree);
+        String before = Check.state(tree);
         for (Method method : Highkey.class.getDeclaredMethods()) {
             if (!Modifier.isPublic(method.getModifiers()) || method.getParameterCount() == 0) {
                 continue;
@@ -100,7 +89,7 @@ public final class FaceTest {
                 Check.same(method.getName() + " with " + number + " throws", thrown, due);
             }
         }
-        Check.same("the state behind wrong calls", state(tree), before);
+        Check.same("the state behind wrong calls", Check.state(tree), before);
         Check.same("the cursor behind wrong calls", tree.next(1), 5);
     }
 }

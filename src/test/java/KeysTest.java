@@ -110,7 +110,9 @@ public final class KeysTest {
     }
 
     private static void checkValues(String what, Highkey tree) {
-        for (int key = 0; key < 200; key++) {
+        Check.same(what + 0, tree.get(0), NONE);
+        Check.same(what + 199, tree.get(199), NONE);
+        for (int key = 95; key < 145; key++) {
             int want = key >= 100 && key <= 140 ? 10 * key : NONE;
             Check.same(what + key, tree.get(key), want);
         }
@@ -121,9 +123,10 @@ public final class KeysTest {
         Check.takeRange(tree, 20, 40);
         Check.same("5: not posted", tree.getByLeaves(60), 600);
         tree.postAll();
-        while (tree.takeOut() != NONE) {
+        for (int leaf = 0; leaf < 20 && tree.takeOut() != NONE; leaf++) {
             tree.recycle();
         }
+        Check.same("5: no leaf can be taken out", tree.takeOut(), NONE);
         tree.put(25, 1);
         for (int key = 0; key < 200; key++) {
             int want = key == 25 ? 1 : key < 20 || key > 40 && key <= 60 ? 10 * key : NONE;

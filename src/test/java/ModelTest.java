@@ -1,9 +1,11 @@
 import java.util.function.IntSupplier;
 
-/** All promises: long runs of calls on an object and on the model, which must agree on every answer and on every page. */
+/** All promises: runs of 512 calls on an object and on the model, which must agree on every answer. */
 public final class ModelTest {
-    private static final int RUNS = 150;
+    private static final int RUNS = 6000;
     private static final int CALLS = 512;
+    // So many calls at the end of a run only ask.
+    private static final int ASKED_LAST = 60;
     // Changing calls by their weights: put, take, post, postAll, takeOut, recycle, open, next, close.
     private static final int[][] MIXES = {
         {40, 20, 8, 2, 8, 4, 2, 12, 2},
@@ -12,6 +14,7 @@ public final class ModelTest {
         {50, 30, 2, 0, 10, 3, 1, 10, 1},
         {30, 30, 0, 10, 20, 10, 1, 15, 1},
         {90, 5, 0, 1, 0, 0, 1, 5, 1},
+        {40, 20, 5, 2, 8, 4, 12, 12, 6},
     };
 
     private long seed;
@@ -26,7 +29,7 @@ public final class ModelTest {
 
     public static void main(String[] args) {
         for (int run = 0; run < RUNS; run++) {
-            new ModelTest(run).walk(MIXES[run % MIXES.length], run % 5, run % 7 == 0);
+            new ModelTest(run).walk(MIXES[run % MIXES.length], run % 5, 2 + run % 11, run % 13 == 0);
         }
         Check.end("ModelTest");
     }
@@ -49,30 +52,36 @@ public final class ModelTest {
         return draw(60) == 0 ? draw(2) * 201 - 1 : key;
     }
 
-    private void walk(int[] mix, int kind, boolean taking) {
+    private void walk(int[] mix, int kind, int asking, boolean taking) {
         int sum = 0;
         for (int weight : mix) {
             sum += weight;
         }
         for (int call = 0; call < CALLS; call++) {
-            int drawn = draw(sum);
-            int which = 0;
-            while (drawn >= mix[which]) {
-                drawn -= mix[which++];
-            }
-            // Some runs put much first and take much then.
-            if (taking && which <= 1) {
-                which = call < CALLS / 2 ? 0 : 1;
-            }
-            change(which, drawKey(call, kind));
-            if (call % 4 == 0 || call > CALLS - 8) {
-                compare();
+            int key = drawKey(call, kind);
+            if (call >= CALLS - ASKED_LAST || draw(asking) == 0) {
+                ask(key);
+            } else {
+                changeByMix(mix, draw(sum), key, taking && call < CALLS / 2, taking && call >= CALLS / 2);
             }
         }
     }
 
+    /** Some runs put much first and take much then. */
+    private void changeByMix(int[] mix, int drawn, int key, boolean putting, boolean taking) {
+        int which = 0;
+        int left = drawn;
+        while (left >= mix[which]) {
+            left -= mix[which++];
+        }
+        if (which <= 1) {
+            which = putting ? 0 : taking ? 1 : which;
+        }
+        change(which, key);
+    }
+
     private void change(int which, int key) {
-        int value = draw(50) == 0 ? draw(2) * 10001 - 1 : draw(10000);
+        int value = draw(50) == 0 ? draw(2) * 10001 - 1 : draw(2) * draw(10000);
         int cursor = draw(draw(8) == 0 ? 22 : 6) - 1;
         switch (which) {
             case 0: same("put " + key + " " + value, () -> tree.put(key, value), () -> model.put(key, value)); break;
@@ -87,37 +96,31 @@ public final class ModelTest {
         }
     }
 
-    private void compare() {
-        same("keys", tree::keys, model::keys);
-        same("waiting", tree::waiting, model::waiting);
-        same("dead", tree::dead, model::dead);
-        same("epoch", tree::epoch, model::epoch);
-        same("pages", tree::pages, model::pages);
-        same("root", tree::root, model::root);
-        for (int page = -1; page <= model.highestNumber() + 1; page++) {
-            comparePage(page);
-        }
-        for (int key = -1; key <= 200; key++) {
-            int asked = key;
-            same("get " + key, () -> tree.get(asked), () -> model.get(asked));
-            same("getByLeaves " + key, () -> tree.getByLeaves(asked), () -> model.get(asked));
-            same("links " + key, () -> tree.links(asked), () -> model.links(asked));
-        }
-        for (int cursor = -1; cursor <= 20; cursor++) {
-            int asked = cursor;
-            same("leafOf " + cursor, () -> tree.leafOf(asked), () -> model.leafOf(asked));
-        }
-    }
-
-    private void comparePage(int page) {
-        same("level " + page, () -> tree.level(page), () -> model.level(page));
-        same("size " + page, () -> tree.size(page), () -> model.size(page));
-        same("high " + page, () -> tree.high(page), () -> model.high(page));
-        same("right " + page, () -> tree.right(page), () -> model.right(page));
-        for (int place = -1; place <= 5; place++) {
-            int asked = place;
-            same("keyAt " + page + " " + place, () -> tree.keyAt(page, asked), () -> model.keyAt(page, asked));
-            same("below " + page + " " + place, () -> tree.below(page, asked), () -> model.below(page, asked));
+    private void ask(int key) {
+        int page = draw(model.highestNumber() + 3) - 1;
+        int place = draw(7) - 1;
+        int cursor = draw(22) - 1;
+        switch (draw(18)) {
+            case 0: same("keys", tree::keys, model::keys); break;
+            case 1: same("waiting", tree::waiting, model::waiting); break;
+            case 2: same("dead", tree::dead, model::dead); break;
+            case 3: same("epoch", tree::epoch, model::epoch); break;
+            case 4: same("pages", tree::pages, model::pages); break;
+            case 5: same("root", tree::root, model::root); break;
+            case 6: same("level " + page, () -> tree.level(page), () -> model.level(page)); break;
+            case 7: same("size " + page, () -> tree.size(page), () -> model.size(page)); break;
+            case 8: same("high " + page, () -> tree.high(page), () -> model.high(page)); break;
+            case 9: case 10: same("right " + page, () -> tree.right(page), () -> model.right(page)); break;
+            case 11: case 12:
+                same("keyAt " + page + " " + place, () -> tree.keyAt(page, place), () -> model.keyAt(page, place));
+                break;
+            case 13:
+                same("below " + page + " " + place, () -> tree.below(page, place), () -> model.below(page, place));
+                break;
+            case 14: same("get " + key, () -> tree.get(key), () -> model.get(key)); break;
+            case 15: same("getByLeaves " + key, () -> tree.getByLeaves(key), () -> model.get(key)); break;
+            case 16: same("links " + key, () -> tree.links(key), () -> model.links(key)); break;
+            default: same("leafOf " + cursor, () -> tree.leafOf(cursor), () -> model.leafOf(cursor)); break;
         }
     }
 
