@@ -395,6 +395,25 @@ public final class CursorsEdgesTest {
         Check.same("4 came on leaf 1", tree.size(1) + " " + tree.next(0), "1 -1");
     }
 
+    @Says(promise = 24, sentence = "and cursors walk on while keys come and go")
+    static void itWalksOnWhileKeysComeAndGo() {
+        Highkey tree = posted(7);
+        tree.open(0);
+        for (int key = 0; key <= 60; key++) {
+            Check.same("the next", tree.next(0), key);
+            tree.take(key);
+            tree.put(key + 8, 1);
+            if (key % 3 == 0) {
+                tree.postAll();
+            } else if (key % 3 == 1) {
+                tree.takeOut();
+                Check.same("none can be recycled", tree.recycle(), 0);
+            }
+            Check.same("its leaf is there", tree.level(tree.leafOf(0)), 0);
+        }
+        Check.same("leaves went behind it", tree.dead() > 9, true);
+    }
+
     // ---- promise 25
 
     @Says(promise = 25, sentence = "- `cursor`: the number of an open cursor")

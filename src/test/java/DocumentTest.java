@@ -8,8 +8,8 @@ import java.util.Set;
 import java.util.TreeMap;
 
 /**
- * That the tests of sentences quote the document word by word, and that each clause of its terms and of its promises is
- * quoted by at least one of them.
+ * That the tests of sentences quote the document word by word, and that each clause of its opening, of its terms and of its
+ * promises is quoted by at least one of them.
  */
 public final class DocumentTest {
     private static final Path DOCUMENT = Path.of("../shared/DOC.md");
@@ -60,6 +60,10 @@ public final class DocumentTest {
     }
 
     private void clausesAreQuoted() {
+        // The opening is one long sentence.
+        for (String clause : clausesOf(opening.replaceAll("[:,] ", ". "))) {
+            Check.same("a test of the opening: " + clause, isQuoted(0, clause), true);
+        }
         for (String clause : clausesOf(terms)) {
             boolean named = WITHOUT_A_TEST.contains(clause) || clause.contains(" the interface says");
             Check.same("a test of the terms: " + clause, named || isQuoted(0, clause), true);

@@ -1,11 +1,14 @@
+import java.io.IOException;
 import java.lang.reflect.Constructor;
 import java.lang.reflect.Field;
 import java.lang.reflect.Method;
 import java.lang.reflect.Modifier;
+import java.nio.file.Files;
+import java.nio.file.Path;
 import java.util.Set;
 import java.util.TreeSet;
 
-/** The public face of the document, and that a call that throws changes nothing. */
+/** The public face of the document, and that a call that throws changes nothing. Takes the program's file. */
 public final class FaceTest {
     private static final String[] FACE = {
         "close(int)", "below(int,int)", "dead()", "epoch()", "get(int)", "getByLeaves(int)", "high(int)",
@@ -15,11 +18,31 @@ public final class FaceTest {
     };
     private static final int[] WRONG_NUMBERS = {Integer.MIN_VALUE, -1, 200, 10000, Integer.MAX_VALUE};
 
-    public static void main(String[] args) throws ReflectiveOperationException {
+    public static void main(String[] args) throws ReflectiveOperationException, IOException {
+        asTheDocumentWritesIt(Files.readString(Path.of(args[0])));
         methods();
         restOfTheFace();
         wrongCallsChangeNothing();
         Check.end("FaceTest");
+    }
+
+    /** Word by word, with what a method throws and how its arguments are called. */
+    private static void asTheDocumentWritesIt(String program) throws IOException {
+        String document = Files.readString(Path.of("../shared/DOC.md"));
+        String face = document.split("```")[1];
+        Set<String> due = publicLines(face);
+        Check.same("lines of the document's face", due.size(), 28);
+        Check.same("the face", publicLines(program), due);
+    }
+
+    private static Set<String> publicLines(String text) {
+        Set<String> lines = new TreeSet<>();
+        for (String line : text.split("\n")) {
+            if (line.trim().startsWith("public ")) {
+                lines.add(line.trim().replaceAll(" ?[{;]$", ""));
+            }
+        }
+        return lines;
     }
 
     private static String signature(Method method) {

@@ -425,6 +425,25 @@ public final class KeysEdgesTest {
         Check.same("in the leaf behind", tree.get(6) + " " + tree.get(7), "60 70");
     }
 
+    @Says(promise = 4, sentence = "keys are found all the same over the links")
+    static void keysAreFoundHoweverManySplitsArePosted() {
+        boolean linksWereNeeded = false;
+        for (int posts = 0; posts <= 11; posts++) {
+            Highkey tree = Check.tree(0, 30);
+            for (int posted = 0; posted < posts; posted++) {
+                tree.post();
+            }
+            Check.same("some wait, posted " + posts, tree.waiting() > 0, posts < 11);
+            for (int key = 0; key <= 30; key++) {
+                linksWereNeeded |= tree.links(key) > 0;
+                Check.same("get " + key + ", posted " + posts, tree.get(key), 10 * key);
+                Check.same("getByLeaves " + key + ", posted " + posts, tree.getByLeaves(key), 10 * key);
+            }
+            Check.same("get 31, posted " + posts, tree.get(31), NONE);
+        }
+        Check.same("links were needed", linksWereNeeded, true);
+    }
+
     // ---- promise 5
 
     @Says(promise = 5, sentence = "- `key`: 0 to 199")

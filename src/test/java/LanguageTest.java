@@ -14,6 +14,9 @@ public final class LanguageTest {
         "\\bstatic\\s*\\{", "\\.equals\\(", "\\.hashCode\\(", "\\.toString\\(", "Exact\\(", "\\bvar\\b", "\\bnative\\b",
         "\\bthrow\\s+(?!new (IllegalArgument|IllegalState|IndexOutOfBounds)Exception\\(\"[^\"]*\"\\);)",
     };
+    private static final Set<String> CLASSES = Set.of(
+            "Highkey", "Page", "Cursor", "ArrayList", "IllegalArgumentException", "IllegalStateException",
+            "IndexOutOfBoundsException");
 
     public static void main(String[] args) throws IOException {
         String text = Files.readString(Path.of(args[0]));
@@ -27,9 +30,20 @@ public final class LanguageTest {
             imports.add(matcher.group(1));
         }
         Check.same("imports", Set.of("java.util.ArrayList").containsAll(imports), true);
+        Check.same("classes", namesOfClasses(code), new TreeSet<>(CLASSES));
         Check.same("only signs 1 to 127", text.chars().allMatch(sign -> sign >= 1 && sign <= 127), true);
         methodsAreShort(code);
         Check.end("LanguageTest");
+    }
+
+    /** Its own ones and those of the library, which alone begin with a large letter that a small one follows. */
+    private static Set<String> namesOfClasses(String code) {
+        Set<String> names = new TreeSet<>();
+        Matcher matcher = Pattern.compile("\\b[A-Z][a-z]\\w*").matcher(code.replaceAll("\"[^\"]*\"", ""));
+        while (matcher.find()) {
+            names.add(matcher.group());
+        }
+        return names;
     }
 
     private static void methodsAreShort(String code) {

@@ -502,6 +502,37 @@ public final class PagesEdgesTest {
         noSuchPages("right", tree, NO_PAGES, tree::right);
     }
 
+    @Says(promise = 21, sentence = "A tree of pages with right links")
+    static void thePagesOfEachLevelStandInARow() {
+        for (int posts = 0; posts <= 25; posts += 5) {
+            Highkey tree = Check.tree(0, 60);
+            for (int posted = 0; posted < posts && tree.waiting() > 0; posted++) {
+                tree.post();
+            }
+            int seen = 0;
+            int first = tree.root();
+            for (int level = tree.level(first); level >= 0; level--) {
+                seen += pagesInARow(tree, first, level);
+                first = tree.below(first, 0);
+            }
+            Check.same("below the leaves", first, NONE);
+            Check.same("all pages, posted " + posts, seen, tree.pages());
+        }
+    }
+
+    /** How many; each one must have the first key of the next one, which is its low key here, as its high key. */
+    private static int pagesInARow(Highkey tree, int first, int level) {
+        int count = 0;
+        Check.same("the first key", tree.keyAt(first, 0), 0);
+        for (int page = first; page != NONE; page = tree.right(page)) {
+            int next = tree.right(page);
+            Check.same("level of page " + page, tree.level(page), level);
+            Check.same("high key of page " + page, tree.high(page), next == NONE ? 200 : tree.keyAt(next, 0));
+            count++;
+        }
+        return count;
+    }
+
     // ---- promise 22
 
     @Says(promise = 22, sentence = "- `key`: 0 to 199")

@@ -1,6 +1,7 @@
 /** The edges of the promises 7 to 9, each sentence with tests of its own. */
 public final class SplitsEdgesTest {
     private static final int NONE = Highkey.NONE;
+    private static final String TWO_STEPS = "pages split in two steps, so that others may see a split that is half done";
     private static final String UP_TO_4 = "A page of a level above has up to 4 entries, each with a key and a page of the "
             + "level below, by rising keys; the key of the first one is the low key of the page.";
     private static final String SPLITS = "When a leaf would have 5 keys, or a page above 5 entries, it splits: "
@@ -86,6 +87,27 @@ public final class SplitsEdgesTest {
         Highkey full = Check.tree(0, 3);
         Check.noKey("a wrong value", () -> full.put(4, 10000));
         Check.same("a refused put", full.waiting(), 0);
+    }
+
+    @Says(promise = 7, sentence = TWO_STEPS)
+    static void aSplitLeafIsSeenBetweenTheSteps() {
+        Highkey tree = Check.tree(0, 10);
+        tree.postAll();
+        Check.putRange(tree, 11, 13);
+        Check.same("the new leaf is linked", tree.right(3) + " " + Check.keysOf(tree, 5), "5 12 13");
+        Check.same("it stands in no entry", Check.pagesOf(tree, 4) + ", " + tree.links(12), "0 1 2 3, 1");
+        tree.post();
+        Check.same("it does", Check.pagesOf(tree, tree.right(4)) + ", " + tree.level(tree.right(4)), "3 5, 1");
+    }
+
+    @Says(promise = 7, sentence = TWO_STEPS)
+    static void aSplitPageAboveIsSeenBetweenTheSteps() {
+        Highkey tree = Check.tree(0, 13);
+        post(tree, 4);
+        Check.same("the new page is linked", tree.right(5) + " " + Check.pagesOf(tree, 6), "6 3 4");
+        Check.same("the root is its left half", tree.root() + " " + tree.links(9), "5 1");
+        tree.post();
+        Check.same("it stands in an entry", Check.pagesOf(tree, tree.root()) + ", " + tree.links(9), "5 6, 0");
     }
 
     // ---- promise 8

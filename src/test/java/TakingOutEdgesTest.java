@@ -364,6 +364,28 @@ public final class TakingOutEdgesTest {
         Check.same("the others are there", tree.level(0) + " " + tree.level(2) + " " + tree.level(3), "0 0 1");
     }
 
+    @Says(promise = 11, sentence = "empty leaves are taken out and recycled when no cursor can be on them any more")
+    static void itIsRecycledWhenTheCursorsThatCanBeOnItAreClosed() {
+        Highkey tree = posted(10);
+        for (int round = 0; round < 6; round++) {
+            int on = tree.open(3);
+            Check.takeRange(tree, 3, 5);
+            Check.same("taken out", tree.takeOut(), 1);
+            int later = tree.open(3);
+            Check.same("where the cursors are", tree.leafOf(on) + " " + tree.leafOf(later), "1 0");
+            Check.same("one can be on it", tree.recycle() + " " + tree.level(1), "0 0");
+            tree.close(on);
+            Check.same("none can be", tree.recycle(), 1);
+            Check.noSuch("it is gone", () -> tree.level(1));
+            Check.same("the later one is open still", tree.leafOf(later), 0);
+            Check.putRange(tree, 3, 5);
+            Check.same("its number is used again", tree.right(0) + " " + Check.keysOf(tree, 1), "1 3 4 5");
+            Check.same("and posted", tree.postAll(), 1);
+            Check.same("the later one walks on it", tree.next(later) + " " + tree.leafOf(later), "3 1");
+            Check.same("none is open", tree.close(later), 0);
+        }
+    }
+
     // ---- promise 12
 
     @Says(promise = 12, sentence = "Returns how many dead leaves there are.")
